@@ -5,7 +5,6 @@ import java.util.Comparator;
 import java.util.Deque;
 import java.util.List;
 import java.util.NoSuchElementException;
-import java.util.Objects;
 import java.util.TreeMap;
 import java.util.TreeSet;
 import java.util.regex.Matcher;
@@ -148,10 +147,10 @@ final class Model {
         if (member.operations.size() == 20) {
             throw new UnsupportedOperationException();
         }
-        return append(member, new Operation(kind, item, operand, new int[1]));
+        return take(member, new Operation(kind, item, operand, new int[1]));
     }
 
-    private int append(Member member, Operation operation) {
+    private int take(Member member, Operation operation) {
         member.operations.add(operation);
         try {
             return perform(member, operation);
@@ -317,7 +316,7 @@ final class Model {
             } else {
                 asked++;
                 String number = part.substring(2).replace("=", "").replace("+", "");
-                append(member, new Operation("rwa".indexOf(part.charAt(0)), part.charAt(1) - '0',
+                take(member, new Operation("rwa".indexOf(part.charAt(0)), part.charAt(1) - '0',
                         number.isEmpty() ? 0 : Integer.parseInt(number), new int[1]));
             }
         }
@@ -357,12 +356,13 @@ final class Model {
         if (member.state > 1) {
             return 0;
         }
-        TreeSet<Integer> fallen = new TreeSet<>(List.of(transaction));
-        while (world.members.stream().anyMatch(other -> other.state < 2
-                && other.waitsFor.stream().anyMatch(fallen::contains) && fallen.add(other.number))) {
-            Objects.requireNonNull(fallen);
+        int mask = 1 << transaction;
+        for (Member other : world.members) {
+            if (open(other).contains(transaction)) {
+                mask |= cascade(other.number);
+            }
         }
-        return fallen.stream().mapToInt(number -> 1 << number).sum();
+        return mask;
     }
 
     int operation(int transaction, int index, int what) {

@@ -30,7 +30,7 @@ public final class RandomRunsTest {
         }
         String name = drawnName(random);
         List<Integer> arguments = drawnArguments(random, name, bench.transactionCount());
-        String before = random.nextInt(8) == 0 ? everything(bench) : null;
+        String before = random.nextInt(40) == 0 ? everything(bench) : null;
         String got = Script.answer(bench, name, arguments);
         String due = Script.answer(model, name, arguments);
         told.add(name + arguments + ": " + got + (got.equals(due) ? "" : " but due is " + due));
@@ -52,18 +52,9 @@ public final class RandomRunsTest {
             List<Integer> arguments = List.of((int) character);
             String got = Script.answer(bench, "append", arguments);
             told.add("append(" + character + "): " + got);
-            same &= got.equals(appended(model, character));
+            same &= got.equals(Script.answer(model, "append", arguments));
         }
         return same;
-    }
-
-    /** The model has a second method of this name, so it is not called by name. */
-    private static String appended(Model model, char character) {
-        try {
-            return String.valueOf(model.append(character));
-        } catch (IllegalArgumentException | IllegalStateException exception) {
-            return "throws." + exception.getClass().getSimpleName();
-        }
     }
 
     private static String drawnName(Random random) {
@@ -123,27 +114,32 @@ public final class RandomRunsTest {
         for (String name : new String[] {"transactionCount", "horizon", "check", "eventCount", "abortShare", "errorPosition"}) {
             note(all, bench, name);
         }
-        for (int number = 0; number < 16; number++) {
+        int transactions = asked(bench, "transactionCount");
+        for (int number = 0; number < transactions; number++) {
             note(all, bench, "dependencies", number);
             note(all, bench, "cascade", number);
             noteTable(all, bench, "transaction", new int[] {number}, 5);
-            for (int index = 0; index < 20; index++) {
+            int operations = asked(bench, "transaction", number, 4);
+            for (int index = 0; index < operations; index++) {
                 noteTable(all, bench, "operation", new int[] {number, index}, 4);
             }
         }
         for (int item = 0; item < 8; item++) {
-            note(all, bench, "versionCount", item);
-            for (int index = 0; index < 17; index++) {
+            int versions = asked(bench, "versionCount", item);
+            for (int index = 0; index < versions; index++) {
                 noteTable(all, bench, "version", new int[] {item, index}, 5);
             }
         }
-        for (int index = 0; index < 50; index++) {
+        int events = asked(bench, "eventCount");
+        for (int index = 0; index < events; index++) {
             noteTable(all, bench, "event", new int[] {index}, 3);
         }
         noteTable(all, bench, "total", new int[0], 9);
         for (int slot = 0; slot < 3; slot++) {
-            for (int index = 0; index < 30; index++) {
-                note(all, bench, "divide", slot, index, 1);
+            String element = "";
+            for (int index = 0; index < 31 && !element.startsWith("throws"); index++) {
+                element = Script.answer(bench, "divide", List.of(slot, index, 1));
+                all.append(element).append(' ');
             }
         }
         return all.toString();
@@ -158,10 +154,18 @@ public final class RandomRunsTest {
     }
 
     private static void note(StringBuilder all, Object bench, String name, int... arguments) {
+        all.append(Script.answer(bench, name, listed(arguments))).append(' ');
+    }
+
+    private static int asked(Object bench, String name, int... arguments) {
+        return Integer.parseInt(Script.answer(bench, name, listed(arguments)));
+    }
+
+    private static List<Integer> listed(int... arguments) {
         List<Integer> given = new ArrayList<>();
         for (int argument : arguments) {
             given.add(argument);
         }
-        all.append(Script.answer(bench, name, given)).append(' ');
+        return given;
     }
 }

@@ -1,7 +1,9 @@
 import java.lang.reflect.InvocationTargetException;
 import java.lang.reflect.Method;
 import java.util.ArrayList;
+import java.util.HashMap;
 import java.util.List;
+import java.util.Map;
 import java.util.regex.Matcher;
 import java.util.regex.Pattern;
 
@@ -12,6 +14,7 @@ import java.util.regex.Pattern;
  */
 final class Script {
     private static final Pattern CALL = Pattern.compile("(\\w+)\\((.*)\\): (\\S+)");
+    private static final Map<String, Method> METHODS = new HashMap<>();
     private static int calls = 0;
     private static int wrong = 0;
 
@@ -77,9 +80,13 @@ final class Script {
 
     /** Calls a method by its name on any object that has the document's face. */
     static String answer(Object bench, String name, List<Integer> arguments) {
+        return answer(bench, METHODS.computeIfAbsent(bench.getClass() + name, key -> found(bench, name)), arguments);
+    }
+
+    private static Method found(Object bench, String name) {
         for (Method method : bench.getClass().getDeclaredMethods()) {
             if (method.getName().equals(name)) {
-                return answer(bench, method, arguments);
+                return method;
             }
         }
         throw new IllegalArgumentException("no method " + name);
