@@ -117,7 +117,7 @@ public final class TimestampScheduler {
     public int abort(int transaction) throws IndexOutOfBoundsException, IllegalStateException {
         requireIndex(isTransaction(transaction));
         requireState(bench.transactions[transaction].isUncommitted());
-        return bench.abortWithDependents(transaction, EVENT_ABORTED, NONE, 0);
+        return bench.abortWithDependents(transaction, NONE);
     }
 
     public int restartNext() throws NoSuchElementException {
@@ -361,6 +361,7 @@ public final class TimestampScheduler {
         final Chain[] chains;
         final EventLog events;
         final int[] serialValues;
+        final int[] abortPath;
 
         Bench() {
             protocol = MULTIVERSION;
@@ -376,6 +377,7 @@ public final class TimestampScheduler {
             }
             events = new EventLog();
             serialValues = new int[ITEMS];
+            abortPath = new int[TRANSACTIONS];
         }
 
         void startAnew(int newProtocol) {
@@ -422,37 +424,42 @@ public final class TimestampScheduler {
             return perform(number, index);
         }
 
-        /** Does an operation of the list. A value can equal ABORTED, so callers look at the state instead. */
+        /** Does an operation of the list. The answer ABORTED can be a value, too, so callers look at the state. */
         private int perform(int number, int index) {
             Transaction doer = transactions[number];
+            int kind = doer.kinds[index];
             int item = doer.items[index];
-            if (doer.kinds[index] == KIND_WRITE) {
-                return writeItem(number, item, doer.operands[index]);
-            }
-            int version = readItem(number, item);
-            if (version < 0) {
-                return ABORTED;
-            }
-            int value = chains[item].values[version];
-            int answer = value;
-            if (doer.kinds[index] == KIND_ADDITION) {
-                answer = value + doer.operands[index];
-                if (writeItem(number, item, answer) == ABORTED) {
+            int value = 0;
+            int answer = 0;
+            if (kind != KIND_WRITE) {
+                int version = readItem(number, item);
+                if (version < 0) {
+                    abortWithDependents(number, item);
                     return ABORTED;
                 }
+                value = chains[item].values[version];
+                answer = value;
+            }
+            if (kind != KIND_READ) {
+                int written = value + doer.operands[index];
+                int obsolete = writeItem(number, item, written);
+                if (obsolete < 0) {
+                    abortWithDependents(number, item);
+                    return ABORTED;
+                }
+                answer = kind == KIND_WRITE ? obsolete : written;
             }
             doer.results[index] = value;
             return answer;
         }
 
-        /** Answers the index of the version that is read, or -1 if the read aborts the transaction. */
+        /** Answers the index of the version that is read, or -1 if the read must abort the transaction. */
         private int readItem(int number, int item) {
             Transaction reader = transactions[number];
             Chain chain = chains[item];
             int index = chain.lastAtMost(reader.timestamp);
             boolean tooLate = protocol != MULTIVERSION && index != chain.count - 1;
             if (index < 0 || tooLate) {
-                abortWithDependents(number, EVENT_ABORTED, item, 0);
                 return NONE;
             }
             chain.raiseReadTime(index, reader.timestamp);
@@ -464,14 +471,13 @@ public final class TimestampScheduler {
             return index;
         }
 
-        /** Answers 0, 1 for an obsolete write that is done, or ABORTED. */
+        /** Answers 1 if the write is done although obsolete, 0 if it is done, -1 if it must abort the transaction. */
         private int writeItem(int number, int item, int value) {
             int timestamp = transactions[number].timestamp;
             Chain chain = chains[item];
             boolean obsolete = protocol != MULTIVERSION && chain.lastAtMost(timestamp) != chain.count - 1;
             if (isReadTooLate(chain, timestamp) || (obsolete && protocol == BASIC)) {
-                abortWithDependents(number, EVENT_ABORTED, item, 0);
-                return ABORTED;
+                return NONE;
             }
             chain.putValue(timestamp, number, value);
             events.note(obsolete ? EVENT_WRITTEN_OBSOLETE : EVENT_WRITTEN, number, item);
@@ -490,14 +496,15 @@ public final class TimestampScheduler {
             Transaction doer = transactions[number];
             int asked = 0;
             while (asked < program.operationCount && doer.state == STATE_ACTIVE) {
-                ask(number, program.kinds[asked], program.items[asked], program.operands[asked]);
+                int index = doer.appendOperation(program.kinds[asked], program.items[asked], program.operands[asked]);
+                perform(number, index);
                 asked++;
             }
             if (doer.state == STATE_ACTIVE) {
                 if (program.end == END_COMMIT) {
                     askCommit(number);
                 } else if (program.end == END_ABORT) {
-                    abortWithDependents(number, EVENT_ABORTED, NONE, 0);
+                    abortWithDependents(number, NONE);
                 }
             }
             return asked;
@@ -539,23 +546,43 @@ public final class TimestampScheduler {
             return found;
         }
 
-        /** Answers how many were aborted. A chain of dependencies has each transaction once, which bounds the depth. */
-        int abortWithDependents(int number, int eventKind, int item, int depth) {
-            if (depth >= TRANSACTIONS) {
-                return 0;
+        /** Answers how many are aborted. The path leads from the first one to the one whose dependents fall now. */
+        int abortWithDependents(int number, int item) {
+            abortOne(number, EVENT_ABORTED, item);
+            int aborted = 1;
+            int depth = 1;
+            abortPath[0] = number;
+            // Each step aborts one or goes back by one: at most two steps for each transaction.
+            for (int step = 0; step < 2 * TRANSACTIONS && depth > 0; step++) {
+                int next = firstDependentOn(abortPath[depth - 1]);
+                if (next >= 0 && depth < TRANSACTIONS) {
+                    abortOne(next, EVENT_CASCADED, NONE);
+                    aborted++;
+                    abortPath[depth] = next;
+                    depth++;
+                } else {
+                    depth--;
+                }
             }
+            return aborted;
+        }
+
+        private void abortOne(int number, int eventKind, int item) {
             for (int chained = 0; chained < ITEMS; chained++) {
                 chains[chained].removeVersionOf(number, transactions[number].timestamp);
             }
             transactions[number].endByAbort();
             events.note(eventKind, number, item);
-            int aborted = 1;
+        }
+
+        /** Those before it are aborted already, so the order is that of the numbers. */
+        private int firstDependentOn(int number) {
             for (int other = 0; other < transactionCount; other++) {
                 if (transactions[other].isUncommitted() && (transactions[other].dependsOn & (1 << number)) != 0) {
-                    aborted += abortWithDependents(other, EVENT_CASCADED, NONE, depth + 1);
+                    return other;
                 }
             }
-            return aborted;
+            return NONE;
         }
 
         int nextToRestart() {

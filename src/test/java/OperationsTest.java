@@ -40,6 +40,11 @@ public final class OperationsTest {
                 horizon(): 1; abortShare(): throws.ArithmeticException; transaction(0, 0): throws.IndexOutOfBoundsException;
                 begin(4): 0; transaction(0, 1): 1; transaction(0, 2): 4; transaction(0, 3): 0; transaction(0, 4): 0;
                 dependencies(0): 0; write(0, 0, 1): 0; operation(0, 0, 3): 0""");
+        Script.check("promise 2: nothing of the earlier transactions is left", """
+                begin(0): 0; begin(0): 1; write(0, 0, 8): 0; read(1, 0): 8; read(0, 0): 8; add(0, 0, 1): ABORTED; restartNext(): 0;
+                restartNext(): 1; read(1, 0): 9; reset(2): 2; versionCount(0): 1; version(0, 0, 1): 0; begin(0): 0; begin(0): 1;
+                transaction(0, 3): 0; transaction(1, 3): 0; dependencies(1): 0; write(1, 0, 1): 0; write(1, 1, 1): 0;
+                operation(1, 0, 3): 0; operation(1, 1, 3): 0; commit(1): true; event(0, 0): 0; event(2, 2): 0; event(4, 0): 5""");
         Script.check("promise 2: what stays", """
                 begin(1): 0; text('q'): 1; run(0): throws.IllegalArgumentException; text('r1 '): 3;
                 allocate(1, 1, 4): nothing; snapshot(): 1; reset(0): 2; errorPosition(): 0; append(99): 4;
@@ -179,6 +184,15 @@ public final class OperationsTest {
                 begin(0): 0; begin(0): 1; begin(0): 2; write(0, 0, 5): 0; add(1, 0, 1): 6; commit(1): false; read(2, 0): 6;
                 dependencies(2): 2; version(0, 2, 4): 0; commit(2): false; commit(0): true; transaction(2, 0): 2;
                 version(0, 2, 4): 1""");
+        Script.check("promise 7: transaction 0 waits like others", """
+                begin(0): 0; begin(0): 1; begin(0): 2; abort(0): 1; restartNext(): 0; write(1, 0, 5): 0; read(0, 0): 5; read(2, 0): 5;
+                dependencies(0): 2; commit(0): false; commit(2): false; commit(1): true; dependencies(0): 0; transaction(0, 0): 2;
+                eventCount(): 13; event(10, 1): 1; event(11, 1): 2; event(12, 1): 0; check(): 0""");
+        Script.check("promise 7: transaction 0 goes before later timestamps", """
+                begin(0): 0; begin(0): 1; begin(9): 2; begin(0): 3; abort(2): 1; abort(0): 1; write(1, 0, 5): 0; restartNext(): 2;
+                restartNext(): 0; abort(2): 1; restartNext(): 2; abort(3): 1; restartNext(): 3; read(3, 0): 5; read(2, 0): 5;
+                read(0, 0): 5; commit(3): false; commit(2): false; commit(0): false; commit(1): true; event(19, 1): 1;
+                event(20, 1): 0; event(21, 1): 2; event(22, 1): 3; eventCount(): 23""");
         Script.check("promise 7: wrong calls", """
                 commit(0): throws.IndexOutOfBoundsException; begin(0): 0; commit(-1): throws.IndexOutOfBoundsException;
                 commit(1): throws.IndexOutOfBoundsException; commit(0): true; commit(0): throws.IllegalStateException;
@@ -194,6 +208,13 @@ public final class OperationsTest {
                 event(18, 1): 2; transaction(3, 0): 3; transaction(4, 0): 0; versionCount(0): 1; versionCount(2): 1;
                 total(6): 1; total(7): 3; transaction(1, 3): 1; dependencies(1): 0; dependencies(3): 0;
                 version(1, 0, 1): 5; version(0, 0, 1): 0""");
+        StringBuilder chain = new StringBuilder();
+        for (int number = 0; number < 16; number++) {
+            chain.append("begin(0): ").append(number).append("; add(").append(number).append(", 0, 1): ").append(number + 1).append("; ");
+        }
+        Script.check("promise 8: a chain of 16", chain.toString(), """
+                cascade(0): 65535; dependencies(15): 16384; abort(0): 16; versionCount(0): 1; total(7): 15; event(49, 1): 15;
+                transaction(15, 0): 3; abortShare(): 1.0""");
         Script.check("promise 8: wrong calls", """
                 abort(0): throws.IndexOutOfBoundsException; begin(0): 0; begin(0): 1; abort(2): throws.IndexOutOfBoundsException;
                 abort(-1): throws.IndexOutOfBoundsException; abort(0): 1; abort(0): throws.IllegalStateException;

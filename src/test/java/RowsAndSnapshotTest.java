@@ -18,6 +18,10 @@ public final class RowsAndSnapshotTest {
                 cloneRow(0, 0): throws.IllegalStateException; allocate(0, 0, 30): nothing; cloneRow(0, 0): 30;
                 divide(0, 29, 1): 0.0; divide(0, 30, 1): throws.NoSuchElementException; allocate(2, 1, 0): nothing;
                 cloneRow(2, 2): 0; divide(2, 0, 1): throws.NoSuchElementException""");
+        Script.check("promise 28: the first element, too", """
+                begin(0): 0; write(0, 0, 8): 0; commit(0): true; collect(): 1; allocate(1, 0, 1): nothing; export(1, 0): 1;
+                divide(1, 0, 1): 8.0; allocate(1, 0, 1): nothing; divide(1, 0, 1): 0.0; allocate(1, 1, 1): nothing; export(1, 0): 1;
+                allocate(1, 1, 1): nothing; divide(1, 0, 1): 0.0""");
         Script.check("promise 28: a new row is filled with 0", """
                 begin(0): 0; write(0, 0, 8): 0; allocate(1, 1, 2): nothing; export(1, 0): 2; divide(1, 1, 1): 8.0;
                 allocate(1, 1, 2): nothing; divide(1, 1, 1): 0.0; allocate(1, 0, 2): nothing; export(1, 0): 2;
@@ -106,6 +110,17 @@ public final class RowsAndSnapshotTest {
                 begin(0): 0; begin(0): 1; write(0, 0, 1): 0; read(1, 0): 1; commit(1): false; snapshot(): 2; commit(0): true;
                 restore(): 2; dependencies(1): 1; transaction(1, 0): 1; cascade(0): 3; commit(0): true; transaction(1, 0): 2;
                 restore(): 2; abort(0): 2; total(7): 1; total(5): 0""");
+        Script.check("promises 33 and 34: operations, versions and events come back after others took their places", """
+                begin(0): 0; write(0, 1, 5): 0; add(0, 1, 2): 7; read(0, 2): 0; commit(0): true; begin(0): 1; snapshot(): 2;
+                reset(0): 2; begin(0): 0; begin(0): 1; begin(0): 2; read(0, 3): 0; write(2, 1, 8): 0; write(2, 0, 8): 0; read(2, 1): 8;
+                restore(): 2; operation(0, 0, 0): 1; operation(0, 1, 1): 1; operation(0, 0, 2): 5; operation(0, 1, 3): 5;
+                operation(0, 2, 1): 2; version(1, 1, 0): 1; version(1, 1, 1): 1; version(1, 1, 2): 7; version(1, 1, 3): 0;
+                versionCount(0): 1; version(2, 0, 1): 1; event(1, 0): 2; event(1, 1): 0; event(1, 2): 1; event(2, 0): 1;
+                event(4, 2): 2; event(5, 0): 5; eventCount(): 7; check(): 0""");
+        Script.check("promises 33 and 34: the oldest event is restored", "begin(0): 0", "read(0, 1): 0; ".repeat(20), """
+                abort(0): 1; restartNext(): 0; snapshot(): 1""", "begin(0): 1; " + "read(1, 2): 0; ".repeat(20), """
+                eventCount(): 50; event(0, 0): 1; event(0, 2): 1; event(49, 2): 2; restore(): 1; eventCount(): 43; event(0, 0): 0;
+                event(42, 2): 1; event(21, 0): 6; event(22, 0): 8; total(1): 40""");
         Script.check("promises 33 and 34: what is not in the snapshot", """
                 snapshot(): 0; begin(0): 0; text('rr'): 2; run(0): throws.IllegalArgumentException; text('c'): 1;
                 allocate(0, 1, 3): nothing; restore(): 0; errorPosition(): 1; append(99): 2; cloneRow(0, 0): 3""");
