@@ -45,6 +45,9 @@ public final class OperationsTest {
                 restartNext(): 1; read(1, 0): 9; reset(2): 2; versionCount(0): 1; version(0, 0, 1): 0; begin(0): 0; begin(0): 1;
                 transaction(0, 3): 0; transaction(1, 3): 0; dependencies(1): 0; write(1, 0, 1): 0; write(1, 1, 1): 0;
                 operation(1, 0, 3): 0; operation(1, 1, 3): 0; commit(1): true; event(0, 0): 0; event(2, 2): 0; event(4, 0): 5""");
+        Script.check("promise 2: the result of an operation that aborts at once is 0, whatever stood there before", """
+                begin(0): 0; write(0, 0, 8): 0; read(0, 0): 8; read(0, 0): 8; reset(0): 2; begin(0): 0; begin(0): 1; write(1, 0, 5): 0;
+                read(0, 1): 0; read(0, 0): ABORTED; operation(0, 1, 3): 0""");
         Script.check("promise 2: what stays", """
                 begin(1): 0; text('q'): 1; run(0): throws.IllegalArgumentException; text('r1 '): 3;
                 allocate(1, 1, 4): nothing; snapshot(): 1; reset(0): 2; errorPosition(): 0; append(99): 4;

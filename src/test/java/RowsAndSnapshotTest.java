@@ -117,6 +117,9 @@ public final class RowsAndSnapshotTest {
                 operation(0, 2, 1): 2; version(1, 1, 0): 1; version(1, 1, 1): 1; version(1, 1, 2): 7; version(1, 1, 3): 0;
                 versionCount(0): 1; version(2, 0, 1): 1; event(1, 0): 2; event(1, 1): 0; event(1, 2): 1; event(2, 0): 1;
                 event(4, 2): 2; event(5, 0): 5; eventCount(): 7; check(): 0""");
+        Script.check("promises 33 and 34: results are restored", """
+                begin(0): 0; begin(9): 1; write(0, 0, 5): 0; read(1, 0): 5; snapshot(): 2; abort(0): 2; restartNext(): 1;
+                operation(1, 0, 3): 0; restore(): 2; operation(1, 0, 3): 5; dependencies(1): 1""");
         Script.check("promises 33 and 34: the oldest event is restored", "begin(0): 0", "read(0, 1): 0; ".repeat(20), """
                 abort(0): 1; restartNext(): 0; snapshot(): 1""", "begin(0): 1; " + "read(1, 2): 0; ".repeat(20), """
                 eventCount(): 50; event(0, 0): 1; event(0, 2): 1; event(49, 2): 2; restore(): 1; eventCount(): 43; event(0, 0): 0;
