@@ -30,12 +30,12 @@ public final class RandomRunsTest {
         }
         String name = drawnName(random);
         List<Integer> arguments = drawnArguments(random, name, bench.transactionCount());
-        String before = random.nextInt(40) == 0 ? everything(bench) : null;
+        String before = random.nextInt(40) == 0 ? Portrait.of(bench) : null;
         String got = Script.answer(bench, name, arguments);
         String due = Script.answer(model, name, arguments);
         told.add(name + arguments + ": " + got + (got.equals(due) ? "" : " but due is " + due));
         boolean unchanged = before == null || !got.startsWith("throws") || name.equals("export") || name.equals("run")
-                || before.equals(everything(bench));
+                || before.equals(Portrait.of(bench));
         return got.equals(due) && unchanged;
     }
 
@@ -105,67 +105,6 @@ public final class RandomRunsTest {
     }
 
     private static boolean everythingIsSame(TimestampScheduler bench, Model model) {
-        return everything(bench).equals(everything(model));
-    }
-
-    /** All that can be asked without a change; an element of a row is asked by a division by 1. */
-    private static String everything(Object bench) {
-        StringBuilder all = new StringBuilder();
-        for (String name : new String[] {"transactionCount", "horizon", "check", "eventCount", "abortShare", "errorPosition"}) {
-            note(all, bench, name);
-        }
-        int transactions = asked(bench, "transactionCount");
-        for (int number = 0; number < transactions; number++) {
-            note(all, bench, "dependencies", number);
-            note(all, bench, "cascade", number);
-            noteTable(all, bench, "transaction", new int[] {number}, 5);
-            int operations = asked(bench, "transaction", number, 4);
-            for (int index = 0; index < operations; index++) {
-                noteTable(all, bench, "operation", new int[] {number, index}, 4);
-            }
-        }
-        for (int item = 0; item < 8; item++) {
-            int versions = asked(bench, "versionCount", item);
-            for (int index = 0; index < versions; index++) {
-                noteTable(all, bench, "version", new int[] {item, index}, 5);
-            }
-        }
-        int events = asked(bench, "eventCount");
-        for (int index = 0; index < events; index++) {
-            noteTable(all, bench, "event", new int[] {index}, 3);
-        }
-        noteTable(all, bench, "total", new int[0], 9);
-        for (int slot = 0; slot < 3; slot++) {
-            String element = "";
-            for (int index = 0; index < 31 && !element.startsWith("throws"); index++) {
-                element = Script.answer(bench, "divide", List.of(slot, index, 1));
-                all.append(element).append(' ');
-            }
-        }
-        return all.toString();
-    }
-
-    private static void noteTable(StringBuilder all, Object bench, String name, int[] first, int columns) {
-        for (int column = 0; column < columns; column++) {
-            int[] arguments = java.util.Arrays.copyOf(first, first.length + 1);
-            arguments[first.length] = column;
-            note(all, bench, name, arguments);
-        }
-    }
-
-    private static void note(StringBuilder all, Object bench, String name, int... arguments) {
-        all.append(Script.answer(bench, name, listed(arguments))).append(' ');
-    }
-
-    private static int asked(Object bench, String name, int... arguments) {
-        return Integer.parseInt(Script.answer(bench, name, listed(arguments)));
-    }
-
-    private static List<Integer> listed(int... arguments) {
-        List<Integer> given = new ArrayList<>();
-        for (int argument : arguments) {
-            given.add(argument);
-        }
-        return given;
+        return Portrait.of(bench).equals(Portrait.of(model));
     }
 }

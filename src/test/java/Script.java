@@ -9,7 +9,7 @@ import java.util.regex.Pattern;
 
 /**
  * Runs calls that are written as in the document's examples, "begin(1): 0; commit(0): true", on a new object.
- * An exception is written throws.IllegalStateException, and any answer is allowed behind "_".
+ * An exception is written throws.IllegalStateException or, shorter, !IllegalState; any answer is allowed behind "_".
  * text('r0 c'): 4 appends the characters one by one, and answers what the last append answered.
  */
 final class Script {
@@ -22,10 +22,33 @@ final class Script {
     }
 
     static void check(String name, String... parts) {
+        checkCalls(name, new TimestampScheduler(), parts);
+    }
+
+    /** The refused calls answer what is due, and behind them the object answers all as another one without them. */
+    static void refused(String name, String prepare, String refusedCalls) {
         TimestampScheduler bench = new TimestampScheduler();
+        checkCalls(name, bench, prepare, refusedCalls);
+        TimestampScheduler twin = new TimestampScheduler();
+        checkCalls(name, twin, prepare);
+        expect(name + ": that the refused calls change nothing", Portrait.last(bench).equals(Portrait.last(twin)));
+    }
+
+    /** The pattern once for each number; %1$d is the number, %2$d the next one. */
+    static String numbered(int first, int last, String pattern) {
+        StringBuilder all = new StringBuilder();
+        for (int number = first; number <= last; number++) {
+            all.append(pattern.formatted(number, number + 1));
+        }
+        return all.toString();
+    }
+
+    private static void checkCalls(String name, TimestampScheduler bench, String... parts) {
         for (String part : parts) {
             for (String call : part.split(";\\s*")) {
-                checkCall(name, bench, call.strip());
+                if (!call.isBlank()) {
+                    checkCall(name, bench, call.strip());
+                }
             }
         }
     }
@@ -50,7 +73,7 @@ final class Script {
         if (!matcher.matches()) {
             throw new IllegalArgumentException(name + ": not a call: " + call);
         }
-        String due = matcher.group(3).equals("ABORTED") ? "-2147483648" : matcher.group(3);
+        String due = dueAnswer(matcher.group(3));
         String got = matcher.group(1).equals("text")
                 ? appendText(bench, matcher.group(2))
                 : answer(bench, matcher.group(1), arguments(matcher.group(2)));
@@ -59,6 +82,13 @@ final class Script {
             wrong++;
             System.out.println(name + ": " + call + " is due, answered " + got);
         }
+    }
+
+    private static String dueAnswer(String written) {
+        if (written.startsWith("!")) {
+            return "throws." + written.substring(1) + "Exception";
+        }
+        return written.equals("ABORTED") ? "-2147483648" : written;
     }
 
     private static String appendText(TimestampScheduler bench, String quoted) {
