@@ -22,15 +22,15 @@ final class Script {
     }
 
     static void check(String name, String... parts) {
-        checkCalls(name, new TimestampScheduler(), parts);
+        checkOn(new TimestampScheduler(), name, parts);
     }
 
     /** The refused calls answer what is due, and behind them the object answers all as another one without them. */
     static void refused(String name, String prepare, String refusedCalls) {
         TimestampScheduler bench = new TimestampScheduler();
-        checkCalls(name, bench, prepare, refusedCalls);
+        checkOn(bench, name, prepare, refusedCalls);
         TimestampScheduler twin = new TimestampScheduler();
-        checkCalls(name, twin, prepare);
+        checkOn(twin, name, prepare);
         expect(name + ": that the refused calls change nothing", Portrait.last(bench).equals(Portrait.last(twin)));
     }
 
@@ -43,7 +43,7 @@ final class Script {
         return all.toString();
     }
 
-    private static void checkCalls(String name, TimestampScheduler bench, String... parts) {
+    static void checkOn(TimestampScheduler bench, String name, String... parts) {
         for (String part : parts) {
             for (String call : part.split(";\\s*")) {
                 if (!call.isBlank()) {
