@@ -53,6 +53,9 @@ public final class EndingEdgesTest {
         Script.check("the lowest timestamp first, not the lowest number", "begin(0): 0; begin(0): 1; begin(0): 2; abort(0): 1; restartNext(): 0;", """
                 write(1, 0, 1): 0; read(2, 0): 1; read(0, 0): 1; commit(0): false; commit(2): false; commit(1): true; eventCount(): 13;
                 event(10, 1): 1; event(11, 1): 2; event(12, 1): 0""");
+        Script.check("the lowest timestamp first, also if it is that of transaction 0", "begin(0): 0; begin(0): 1; begin(0): 2; abort(0): 1; restartNext(): 0; abort(2): 1; restartNext(): 2;", """
+                write(1, 0, 1): 0; read(2, 0): 1; read(0, 0): 1; commit(0): false; commit(2): false; commit(1): true; transaction(0, 1): 4; transaction(2, 1): 5; eventCount(): 15;
+                event(12, 1): 1; event(13, 1): 0; event(14, 1): 2""");
         StringBuilder backwards = new StringBuilder();
         for (int number = 15; number > 0; number--) {
             backwards.append("commit(%d): false; ".formatted(number));

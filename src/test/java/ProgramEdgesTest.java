@@ -101,6 +101,8 @@ public final class ProgramEdgesTest {
         Script.check("program = [ end ]: the empty program", "begin(0): 0; run(0): 0; transaction(0, 0): 0; transaction(0, 4): 0; eventCount(): 1; errorPosition(): !NoSuchElement");
         Script.check("program = [ end ]: c alone", "begin(0): 0; text('c'): 1; run(0): 0; transaction(0, 0): 2; eventCount(): 2; event(1, 0): 5");
         Script.check("program = [ end ]: x alone", "begin(0): 0; text('x'): 1; run(0): 0; transaction(0, 0): 3; transaction(0, 3): 1; eventCount(): 2; event(1, 0): 6");
+        Script.check("the end of an earlier program is not that of a later one", "begin(0): 0; begin(0): 1; text('r1 c'): 4; run(0): 1; text('r2 r3'): 5; run(1): 2; transaction(1, 0): 0; text('x'): 1; run(1): 0; restartNext(): 1; run(1): 0; transaction(1, 0): 0");
+        Script.check("a read of a program has the number 0", "begin(0): 0; text('w0=5 r0'): 7; run(0): 2; operation(0, 1, 2): 0; operation(0, 1, 3): 5; text('r0'): 2; run(0): 1; operation(0, 2, 2): 0");
         Script.check("one operation without an end", "begin(0): 0; text('r7'): 2; run(0): 1; transaction(0, 0): 0; operation(0, 0, 0): 0; operation(0, 0, 1): 7");
         Script.check("20 operations without an end", "begin(0): 0; text('" + TWENTY_READS + "'): 59; run(0): 20; transaction(0, 0): 0; transaction(0, 4): 20; operation(0, 19, 1): 3; operation(0, 7, 1): 7");
         Script.check("a program can be put together by several runs", "begin(0): 0; text('w0=1'): 4; run(0): 1; text('a0+2'): 4; run(0): 1; text('c'): 1; run(0): 0; valueAt(0, 1): 3; transaction(0, 4): 2");

@@ -13,6 +13,7 @@ public final class ProtocolEdgesTest {
         obsoleteWrites();
         ownVersions();
         newVersions();
+        versionsMove();
         Script.end();
     }
 
@@ -134,6 +135,15 @@ public final class ProtocolEdgesTest {
                     write(2, 0, 3): 0; read(2, 0): 3; write(2, 0, MAX): 0; versionCount(0): 2; version(0, 1, 0): 3; version(0, 1, 1): 3;
                     version(0, 1, 2): 2147483647; version(0, 1, 3): 2; version(0, 1, 4): 0""");
         }
+    }
+
+    private static void versionsMove() {
+        Script.check("a version that is put before others, removed or collected leaves the others as they are", EIGHT, """
+                write(4, 0, 50): 0; read(5, 0): 50; write(6, 0, 70): 0; read(7, 0): 70; write(2, 0, 30): 0; read(2, 0): 30; versionCount(0): 4;
+                version(0, 1, 0): 3; version(0, 1, 1): 3; version(0, 1, 2): 30; version(0, 1, 3): 2; version(0, 2, 0): 5; version(0, 2, 1): 6; version(0, 2, 2): 50; version(0, 2, 3): 4;
+                version(0, 3, 0): 7; version(0, 3, 1): 8; version(0, 3, 2): 70; version(0, 3, 3): 6; abort(2): 1; version(0, 0, 1): 0; version(0, 1, 0): 5; version(0, 1, 1): 6;
+                version(0, 1, 2): 50; version(0, 1, 3): 4; version(0, 2, 1): 8; commit(4): true; commit(6): true; commit(0): true; commit(1): true; commit(3): true; horizon(): 6;
+                collect(): 1; version(0, 0, 0): 5; version(0, 0, 1): 6; version(0, 0, 2): 50; version(0, 0, 3): 4; version(0, 1, 0): 7; version(0, 1, 1): 8; version(0, 1, 2): 70; version(0, 1, 3): 6""");
     }
 
     private static void newVersions() {

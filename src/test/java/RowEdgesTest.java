@@ -56,6 +56,10 @@ public final class RowEdgesTest {
             Script.check("a new row, filled with 0, in place of the old one, type " + type, VALUES, ("allocate(0, T, 30): nothing; export(0, 1): 17; divide(0, 16, 1): 16.0; allocate(0, T, 30): nothing;" + Script.numbered(0, 29, "divide(0, %1$d, 1): 0.0; ")
                     + "export(0, 1): 17; allocate(0, T, 2): nothing; divide(0, 1, 1): 0.0; divide(0, 2, 1): !NoSuchElement").replace("T", String.valueOf(type)));
         }
+        for (int type = 0; type < 2; type++) {
+            Script.check("the first element is set and filled with 0 like the others, type " + type, ("begin(0): 0; write(0, 0, 8): 0; commit(0): true; collect(): 1; allocate(1, T, 1): nothing;"
+                    + "export(1, 0): 1; divide(1, 0, 1): 8.0; allocate(1, T, 1): nothing; divide(1, 0, 1): 0.0").replace("T", String.valueOf(type)));
+        }
         Script.check("a new row of the other type is filled with 0, too", VALUES, "allocate(0, 1, 17): nothing; export(0, 1): 17; allocate(0, 0, 17): nothing; divide(0, 16, 1): 0.0; export(0, 1): 17; allocate(0, 1, 17): nothing; divide(0, 16, 1): 0.0");
     }
 
@@ -141,7 +145,7 @@ public final class RowEdgesTest {
     }
 
     private static void fullSnapshot() {
-        String full = VALUES + "read(15, 1): 16; " + "add(15, 2, 1): _; ".repeat(18) + "transaction(15, 4): 20; abort(3): 1; ";
+        String full = VALUES + "read(15, 1): 16; read(14, 0): _; commit(14): false; " + "add(15, 2, 1): _; ".repeat(18) + "transaction(15, 4): 20; abort(3): 1; ";
         TimestampScheduler bench = prepared(full + "snapshot(): 16; ");
         String due = Portrait.of(prepared(full));
         Script.expect("a snapshot changes nothing", Portrait.of(bench).equals(due));
@@ -149,7 +153,7 @@ public final class RowEdgesTest {
         Script.expect("the calls behind it change the object", !Portrait.of(bench).equals(due));
         prepare(bench, "restore(): 16; ");
         Script.expect("16 transactions, 20 operations, 17 versions and 50 events are restored", Portrait.of(bench).equals(due));
-        prepare(bench, "restartNext(): 3; abort(15): 1; abort(14): 1; restore(): 16; ");
+        prepare(bench, "restartNext(): 3; abort(15): 1; abort(14): 1; abort(2): 1; restore(): 16; dependencies(14): 4; ");
         Script.expect("what happens behind a restore does not change the snapshot", Portrait.of(bench).equals(due));
     }
 
