@@ -7,7 +7,8 @@ import java.lang.reflect.Field;
  */
 public final class CheckCountTest {
     /** Timestamps 1 to 4: the first two are committed, the third is active and the fourth aborted. */
-    private static final String RUN = "begin(0): 0; begin(0): 1; begin(0): 2; begin(0): 3; add(0, 0, 5): 5; read(0, 0): 5; write(0, 1, 9): 0; commit(0): true; read(1, 1): 9; write(1, 0, 7): 0;"
+    private static final String RUN = "begin(0): 0; begin(0): 1; begin(0): 2; begin(0): 3; add(0, 0, 5): 5; read(0, 0): 5; "
+            + "write(0, 1, 9): 0; commit(0): true; read(1, 1): 9; write(1, 0, 7): 0;"
             + "commit(1): true; read(2, 1): 9; write(2, 2, 4): 0; read(3, 1): 9; abort(3): 1; check(): 0";
 
     public static void main(String[] args) {

@@ -4,10 +4,14 @@ import java.util.List;
 /** Every method with every combination of arguments at the document's limits, in several states, compared with the model. */
 public final class EdgeSweepTest {
     private static final int[] EDGES = {Integer.MIN_VALUE, -1, 0, 1, 2, 3, 4, 5, 7, 8, 9, 10, 15, 16, 17, 19, 20, 30, 31, 49, 50, Integer.MAX_VALUE};
+    private static final int[] VALUES = {Integer.MIN_VALUE, -1, 0, Integer.MAX_VALUE};
     private static final int[] CODES = {0, 9, 31, 32, 48, 99, 126, 127, 128, 255, 65535};
-    private static final String[] METHODS = {"reset 1", "begin 1", "read 2", "write 3", "add 3", "commit 1", "abort 1", "restartNext 0", "append 1", "run 1", "errorPosition 0",
-        "transactionCount 0", "transaction 2", "dependencies 1", "cascade 1", "operation 3", "versionCount 1", "version 3", "valueAt 2", "collect 0", "horizon 0", "check 0",
-        "eventCount 0", "event 2", "total 1", "abortShare 0", "allocate 3", "export 2", "divide 3", "cloneRow 2", "copyRow 2", "snapshot 0", "restore 0"};
+    private static final String[] METHODS = {"reset 1", "begin 1", "read 2", "write 3", "add 3", "commit 1", "abort 1", "restartNext 0",
+            "append 1", "run 1", "errorPosition 0",
+        "transactionCount 0", "transaction 2", "dependencies 1", "cascade 1", "operation 3", "versionCount 1", "version 3", "valueAt 2",
+        "collect 0", "horizon 0", "check 0",
+        "eventCount 0", "event 2", "total 1", "abortShare 0", "allocate 3", "export 2", "divide 3", "cloneRow 2", "copyRow 2",
+        "snapshot 0", "restore 0"};
 
     private TimestampScheduler bench;
     private Model model;
@@ -25,14 +29,17 @@ public final class EdgeSweepTest {
         List<String> states = new ArrayList<>();
         states.add("");
         for (int protocol = 0; protocol < 3; protocol++) {
-            states.add("reset(" + protocol + "); begin(1); begin(2); begin(3); begin(4); write(0, 0, 5); read(1, 0); commit(1); write(2, 1, 7); commit(2); abort(3); begin(5); begin(5); read(5, 2);"
-                    + "append(113); run(0); append(114); append(48); allocate(0, 0, 2); allocate(1, 1, 3); export(0, 0); snapshot(); begin(0)");
+            states.add("reset(" + protocol + "); begin(1); begin(2); begin(3); begin(4); write(0, 0, 5); read(1, 0); commit(1); "
+                    + "write(2, 1, 7); commit(2); abort(3); begin(5); begin(5); read(5, 2);"
+                    + "append(113); run(0); append(114); append(48); allocate(0, 0, 2); allocate(1, 1, 3); export(0, 0); snapshot(); "
+                    + "begin(0)");
         }
         StringBuilder full = new StringBuilder();
         for (int number = 0; number < 16; number++) {
             full.append("begin(%1$d); add(%2$d, 0, %3$d); ".formatted(number % 10, number, number * 1000000000));
         }
-        full.append("write(15, 1, -7); ".repeat(19)).append("append(99); ".repeat(60)).append("allocate(0, 1, 30); allocate(1, 1, 16); allocate(2, 0, 17); export(0, 0); export(2, 0); ");
+        full.append("write(15, 1, -7); ".repeat(19)).append("append(99); ".repeat(60)).append("allocate(0, 1, 30); allocate(1, 1, 16); "
+                + "allocate(2, 0, 17); export(0, 0); export(2, 0); ");
         states.add(full.toString());
         states.add(full + "abort(0); snapshot(); restartNext(); restartNext()");
         states.add(full + "commit(3); commit(1); commit(0); commit(2); collect()");
@@ -87,7 +94,8 @@ public final class EdgeSweepTest {
     }
 
     private static boolean isQuestion(String name) {
-        return List.of("errorPosition", "transactionCount", "transaction", "dependencies", "cascade", "operation", "versionCount", "version", "valueAt", "horizon", "check", "eventCount",
+        return List.of("errorPosition", "transactionCount", "transaction", "dependencies", "cascade", "operation", "versionCount",
+                "version", "valueAt", "horizon", "check", "eventCount",
                 "event", "total", "abortShare").contains(name);
     }
 
@@ -95,7 +103,7 @@ public final class EdgeSweepTest {
         List<List<Integer>> all = new ArrayList<>();
         all.add(List.of());
         for (int place = 0; place < count; place++) {
-            int[] values = name.equals("append") ? CODES : thirdIsAnyInt(name, place) ? new int[] {Integer.MIN_VALUE, -1, 0, Integer.MAX_VALUE} : EDGES;
+            int[] values = name.equals("append") ? CODES : thirdIsAnyInt(name, place) ? VALUES : EDGES;
             List<List<Integer>> longer = new ArrayList<>();
             for (List<Integer> shorter : all) {
                 for (int value : values) {
